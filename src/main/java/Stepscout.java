@@ -605,8 +605,8 @@ public final class Stepscout {
         Grounds() {
             marks = new int[PLACES];
             blocked = new long[SIDES];
-            walks = new Costs();
-            needs = new Costs();
+            walks = new Costs(PLACES);
+            needs = new Costs(2 * PLACES);
             survey();
         }
 
@@ -686,8 +686,9 @@ public final class Stepscout {
         private final long[] enough;
         private int last;
 
-        Costs() {
-            enough = new long[2 * PLACES];
+        /** 'bound' is above what any way can cost, which enters each PLACE once. */
+        Costs(int bound) {
+            enough = new long[Math.max(1, bound)];
         }
 
         void measure(long dock, long open, long dear) {
