@@ -105,6 +105,34 @@ public final class DoubtEdgesTest {
         }
     }
 
+    /** A PLACE where one may have slipped is not POSSIBLE any more, if the DOCK alone is, or if it is a WALL now. */
+    private static void placesOfSlipsAreForgotten() {
+        for (int how = 0; how < 4; how++) {
+            Stepscout x = new Stepscout();
+            sand(x, 8);
+            x.robot(9, -1);
+            x.step(0, DOWN);
+            x.step(0, UP);
+            Check.is("slipped at 8, or not", x.possible(0), 1L | 1L << 8);
+            switch (how) {
+                case 0: x.charge(0); break;
+                case 1: x.wall(63, true); break;
+                case 2: x.ground(63, true, 1); break;
+                default: x.wall(8, true); break;
+            }
+            Check.is("the dock alone by " + how, x.possible(0), 1L);
+        }
+        Stepscout y = new Stepscout();
+        sand(y, 8);
+        y.robot(9, -1);
+        y.step(0, DOWN);
+        y.step(0, UP);
+        y.step(0, RIGHT);
+        Check.is("slipped at 8, or not", y.possible(0), 1L << 1 | 1L << 9);
+        y.wall(9, true);
+        Check.is("no wall is possible", y.possible(0), ~(1L << 9));
+    }
+
     /** "With each wall() and ground() the same goes for all ROBOTS, but for those that are at the DOCK". */
     private static void changesForEachRobot() {
         for (int how = 0; how < 3; how++) {
@@ -328,6 +356,7 @@ public final class DoubtEdgesTest {
         theBlocksEnds();
         noSlipElsewhere();
         slipsAreForgotten();
+        placesOfSlipsAreForgotten();
         changesForEachRobot();
         theSumStaysAtTheDock();
         thePlace63();
