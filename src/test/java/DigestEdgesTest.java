@@ -188,6 +188,21 @@ public final class DigestEdgesTest {
         Check.is("sound behind a rest", x.isSound(), true);
     }
 
+    /** The SURE rows of the ROBOTS are asked, not what was found for a way() or a sure() ahead of it. */
+    private static void soundBehindOtherRows() {
+        Stepscout x = new Stepscout();
+        x.robot(3, 0);
+        x.robot(3, 0);
+        x.step(0, 1);
+        x.step(1, 2);
+        Check.is("another's sure row", x.sure(1), "u");
+        Check.is("sound behind that", x.isSound(), true);
+        x.step(1, 2);
+        x.carry(1, 63);
+        Check.is("a way by a sum", x.way(1), "uu");
+        Check.is("sound behind the way", x.isSound(), true);
+    }
+
     public static void main(String[] arguments) {
         anEmptyYard();
         setsWithTheSign();
@@ -196,6 +211,7 @@ public final class DigestEdgesTest {
         aFullYard();
         oneAnswerMore();
         allIsSound();
+        soundBehindOtherRows();
         Check.end("DigestEdgesTest");
     }
 }
